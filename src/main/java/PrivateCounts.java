@@ -289,7 +289,7 @@ public final class PrivateCounts {
 
     /** Decides by whole numbers alone whether e to p / q is at least b / a. */
     private static final class Series {
-        // Of all p, q, a and b none needs more than some twenty terms.
+        // Of all p, q, a and b none needs more than 15 terms.
         private static final int MOST_TERMS = 60;
 
         private final Natural missing = new Natural();
