@@ -40,6 +40,15 @@ final class Check {
         }
     }
 
+    void fails(String what) {
+        made++;
+        tell(what);
+    }
+
+    int wrong() {
+        return wrong;
+    }
+
     private void tell(String what) {
         wrong++;
         if (wrong <= 20) {
