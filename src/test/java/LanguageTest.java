@@ -1,4 +1,7 @@
 import java.io.IOException;
+import java.lang.reflect.Field;
+import java.lang.reflect.Method;
+import java.lang.reflect.Modifier;
 import java.nio.file.Files;
 import java.nio.file.Path;
 import java.util.regex.Matcher;
@@ -22,7 +25,27 @@ public final class LanguageTest {
         hasNone(code, "\\bthrow\\s+(?!new (IllegalArgumentException|IndexOutOfBoundsException)\\()", "rule 6");
         check.due("classes inside are private, static and final",
             matches(code, "private static final class \\w+"), matches(code, "\\bclass \\w+") - 1);
+        hasNone(code, "\"\\s*\\+|\\+\\s*\"", "rule 10");
+        Class<?>[] inside = PrivateCounts.class.getDeclaredClasses();
+        check.due("rule 11: at most twelve classes", inside.length < 12, true);
+        keepsToTheSizes(PrivateCounts.class);
+        for (Class<?> one : inside) {
+            keepsToTheSizes(one);
+        }
         check.end();
+    }
+
+    private static void keepsToTheSizes(Class<?> one) {
+        int fields = 0;
+        for (Field field : one.getDeclaredFields()) {
+            boolean isStatic = Modifier.isStatic(field.getModifiers());
+            check.due("rule 5: " + field + " is final", !isStatic || Modifier.isFinal(field.getModifiers()), true);
+            fields += isStatic ? 0 : 1;
+        }
+        check.due("rule 11: fields of " + one, fields <= 20, true);
+        for (Method method : one.getDeclaredMethods()) {
+            check.due("rule 11: parameters of " + method, method.getParameterCount() <= 7, true);
+        }
     }
 
     private static String withoutComments(String text) {
