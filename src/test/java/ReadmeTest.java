@@ -29,7 +29,9 @@ public final class ReadmeTest {
         Files.writeString(directory.resolve("Example.java"), block(readme, "java"));
         File output = directory.resolve("output").toFile();
         Process process = new ProcessBuilder("sh", "-e", "-c", block(readme, "sh"))
-            .directory(directory.toFile()).redirectErrorStream(true).redirectOutput(output).start();
+            .directory(directory.toFile()).redirectOutput(output)
+            // Apart from the output: a machine's own java may say there what options it has picked up.
+            .redirectError(ProcessBuilder.Redirect.INHERIT).start();
         process.getOutputStream().close();
         check.due("the commands' exit code", process.waitFor(), 0);
         String printed = Files.readString(output.toPath());
